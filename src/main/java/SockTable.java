@@ -664,7 +664,7 @@ public final class SockTable {
             ifs = 0;
             boolean goesOn = true;
             for (int n = 0; n <= MOST_TOKENS && goesOn && type != END; n++) {
-                goesOn = tell();
+                goesOn = type == LOSE ? step(LOSE) && step('=') && wholeLaw() && step(';') : tell();
             }
             return fault;
         }
@@ -679,7 +679,6 @@ public final class SockTable {
                 case FULL: return step(FULL) && wayOfFull() && step(';');
                 case LINE: return step(LINE) && sides() && step(';');
                 case SEED: return step(SEED) && step(INT) && step(';');
-                case LOSE: return step(LOSE) && step('=') && wholeLaw() && step(';');
                 default: return fail(FAULT_SYNTAX);
             }
         }
@@ -711,30 +710,20 @@ public final class SockTable {
             return goesOn;
         }
 
+        /** What is written behind a fault does no harm: such a law is never told. */
         private boolean wholeLaw() {
             law.clear();
             boolean goesOn = true;
             for (int n = 0; n <= MOST_IFS && goesOn && type == IF; n++) {
-                goesOn = addIf() && oneCase();
+                goesOn = addIf() && step(IF) && sum(0) && step('<') && sum(0) && step(THEN);
+                int test = law.write(Law.UNLESS_LESS, 0);
+                goesOn = goesOn && sum(0) && step(ELSE);
+                law.write(Law.DONE, 0);
+                law.aim(test);
             }
-            if (!goesOn || !sum(0)) {
-                return false;
-            }
+            goesOn = goesOn && sum(0);
             law.write(Law.DONE, 0);
-            return true;
-        }
-
-        private boolean oneCase() {
-            if (!step(IF) || !sum(0) || !step('<') || !sum(0) || !step(THEN)) {
-                return false;
-            }
-            int test = law.write(Law.UNLESS_LESS, 0);
-            if (!sum(0) || !step(ELSE)) {
-                return false;
-            }
-            law.write(Law.DONE, 0);
-            law.aim(test);
-            return true;
+            return goesOn;
         }
 
         private boolean sum(int depth) {
@@ -742,9 +731,7 @@ public final class SockTable {
             for (int n = 0; n <= MOST_TOKENS && goesOn && (type == '+' || type == '-'); n++) {
                 int sign = type;
                 goesOn = step(sign) && product(depth);
-                if (goesOn) {
-                    law.write(sign, 0);
-                }
+                law.write(sign, 0);
             }
             return goesOn;
         }
@@ -754,9 +741,7 @@ public final class SockTable {
             for (int n = 0; n <= MOST_TOKENS && goesOn && (type == '*' || type == '/'); n++) {
                 int sign = type;
                 goesOn = step(sign) && unit(depth);
-                if (goesOn) {
-                    law.write(sign, 0);
-                }
+                law.write(sign, 0);
             }
             return goesOn;
         }
@@ -812,16 +797,13 @@ public final class SockTable {
         int tellAll() {
             fault = 0;
             faultToken = NONE;
-            boolean begins = true;
             for (int i = 0; i < tape.tokens && fault == 0; i++) {
-                if (begins) {
-                    tell(i);
-                }
-                begins = tape.typeAt(i) == ';';
+                tell(i);
             }
             return fault;
         }
 
+        /** The words that are looked for begin what is told, and stand nowhere else. */
         private void tell(int first) {
             switch (tape.typeAt(first)) {
                 case SOCK: tellSock(first); break;
@@ -919,13 +901,14 @@ public final class SockTable {
         }
     }
 
-    /** What was told. Kinds that were not told have no things, and are their own partners. */
+    /** What was told. A kind that was not told has no things. */
     private static final class Text {
         int kinds;
         int names;
         final int[] number = new int[MOST_KINDS];
         final int[] partner = new int[MOST_KINDS];
         final int[] nameOf = new int[MOST_KINDS];
+        // These two, and what hangs of which kind, are for the telling alone.
         private final long[] codes = new long[MOST_KINDS];
         final int[] firstKind = new int[MOST_KINDS];
         private final int[] unlikeRows = new int[MOST_KINDS * MOST_KINDS];
