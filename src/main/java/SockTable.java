@@ -1489,7 +1489,7 @@ public final class SockTable {
             int thing = 0;
             for (int i = 0; i < MOST_KINDS; i++) {
                 int last = thing + text.number[i];
-                while (thing < last) {
+                while (thing < last && thing < gone.length) {
                     if (isLost(text, week, i, thing)) {
                         gone[thing] = true;
                         left[i]--;
