@@ -23,6 +23,33 @@ final class Check {
         due(call, got ? 1 : 0, want ? 1 : 0);
     }
 
+    /** Two ways to the same state: all that can be asked is alike, but that of the one this, of the other that is told. */
+    void same(String what, Look.Way one, Look.Way other, String ofOne, String ofOther) {
+        String due = Look.all(one);
+        String got = Look.all(other);
+        if (!ofOne.isEmpty()) {
+            due = due.replace(ofOne, ofOther);
+        }
+        if (!got.equals(due)) {
+            String[] a = got.split("\n");
+            String[] b = due.split("\n");
+            for (int i = 0; i < a.length && i < b.length; i++) {
+                if (!a[i].equals(b[i])) {
+                    System.out.println(test + ": " + what + ": " + a[i] + " | as due: " + b[i]);
+                }
+            }
+        }
+        due(what + ": all is as it was", got.equals(due), true);
+    }
+
+    /** A refused call, or a question, changes nothing. */
+    void nothing(String what, Look.Way before, Look.Way call) {
+        same(what, before, x -> {
+            before.go(x);
+            call.go(x);
+        }, "", "");
+    }
+
     void end() {
         System.out.println(test + ": " + asDue + " answers as due, " + wrong + " not");
         if (wrong != 0 || asDue == 0) {
