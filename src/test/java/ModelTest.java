@@ -7,14 +7,19 @@ import java.util.Random;
 /** Promises 6 to 29 over many told texts, against a plain second telling of the same that counts everything one by one. */
 public final class ModelTest {
     private static final Check CHECK = new Check("ModelTest");
-    private static final int RUNS = 700;
-    private static final int CALLS = 500;
+    private static final int RUNS = 9000;
+    // An object is used for 512 calls at most, and a step makes fewer than 50 of them.
+    private static final int MOST_CALLS = 460;
 
     public static void main(String[] args) {
         SockTable x = new SockTable();
+        int calls = 0;
         for (int run = 0; run < RUNS; run++) {
-            x = run % 4 == 0 ? new SockTable() : x;
-            new Run(run, x).play();
+            boolean again = run % 4 == 1;
+            x = again ? x : new SockTable();
+            Run next = new Run(run, x, again ? calls : 0);
+            next.play(run % 4 == 0 ? MOST_CALLS / 2 : MOST_CALLS);
+            calls = next.calls;
         }
         CHECK.end();
     }
@@ -107,13 +112,20 @@ public final class ModelTest {
         final List<Now> past = new ArrayList<>();
         final Now[] slots = new Now[3];
         final List<int[]> seen = new ArrayList<>();
+        // In every third run most is drawn, so that there is much to undo; in others most is asked.
+        final boolean drawing;
+        int calls;
 
-        /** The object may have been told another text ahead. */
-        Run(int run, SockTable x) {
+        /** The object may have been told another text ahead, by so many calls. */
+        Run(int run, SockTable x, int calls) {
             this.run = run;
             this.x = x;
+            this.calls = calls;
             this.random = new Random(run * 7919L + 5);
-            due("read()", Check.read(x, makeText()), 0);
+            drawing = run % 3 == 0;
+            String text = makeText();
+            this.calls += text.length() / 20 + 2;
+            due("read()", Check.read(x, text), 0);
             now.bag = new int[kinds()];
             for (int i = 0; i < kinds(); i++) {
                 now.bag[i] = number.get(i);
@@ -127,6 +139,7 @@ public final class ModelTest {
         }
 
         void due(String call, long got, long want) {
+            calls++;
             CHECK.due("run " + run + ": " + call, got, want);
         }
 
@@ -232,9 +245,11 @@ public final class ModelTest {
             text.append(last.text()).append(';');
         }
 
-        void play() {
-            checkTold();
-            for (int i = 0; i < CALLS; i++) {
+        void play(int most) {
+            if (run % 4 == 2) {
+                checkTold();
+            }
+            while (calls < most) {
                 step();
             }
         }
@@ -267,7 +282,7 @@ public final class ModelTest {
 
         void step() {
             int kind = random.nextInt(kinds() + 2) - 1;
-            switch (random.nextInt(27)) {
+            switch (random.nextInt(drawing && random.nextInt(8) != 0 ? 10 : 27)) {
                 case 0: case 1: case 2: case 3: due("draw(" + kind + ")", x.draw(kind), draw(kind)); break;
                 case 4: case 5: case 6: due("lot()", x.lot(), lot()); break;
                 case 7: case 8: due("take(" + kind + ")", x.take(kind) ? 1 : 0, take(kind)); break;

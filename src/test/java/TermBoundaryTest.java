@@ -348,6 +348,23 @@ public final class TermBoundaryTest {
         CHECK.due("lies(1)", x.lies(1), 6 * (2 * 1 + 1 * 3 + 1 * 1));
         CHECK.due("lies(4)", x.lies(4), 24 * 2);
         CHECK.due("lies(5)", x.lies(5), -1);
+        x = told("glove g 2 2;");
+        long[] due = {0, 24, 8 * 2, 24, 0};
+        for (int k = 0; k <= 4; k++) {
+            CHECK.due("lies(" + k + ") of 2 and 2", x.lies(k), due[k]);
+        }
+        x.draw(1);
+        x.draw(1);
+        long[] then = {2 * 2, 2 * 1, 0};
+        for (int k = 0; k <= 2; k++) {
+            CHECK.due("lies(" + k + ") with two right ones there", x.lies(k), then[k]);
+        }
+        CHECK.due("within(0) with two right ones there", x.within(0), 0);
+        CHECK.due("within(1) with two right ones there", x.within(1), 2);
+        x = told("sock a 2;sock b 2;sock c 2;sock d 2;sock e 2;sock f 2;sock g 3;sock h 3;");
+        CHECK.due("the most kinds of the most things", x.within(8), FACTORIAL_18);
+        CHECK.due("the most kinds of the most things", x.lies(18), 2 * FACTORIAL_18);
+        CHECK.due("the most kinds of the most things", x.sure(1, 1), 8);
     }
 
     /** "the sum over all ORDERS of the most that lie there behind a DRAW (0 DRAWS: 0)". */
@@ -380,6 +397,7 @@ public final class TermBoundaryTest {
         CHECK.due("1 of 94", x.sure(1, 94), 2);
         CHECK.due("99 of 99", x.sure(99, 99), 9);
         CHECK.due("98 of 99", x.sure(98, 99) < 9, true);
+        CHECK.due("18", told("glove g 9 0;glove h 0 9;").sure(1, 99), 18);
         x = told("sock a 2;");
         CHECK.due("0 of 1", x.sure(0, 1), 0);
         x.draw(0);
@@ -491,8 +509,9 @@ public final class TermBoundaryTest {
 
     /** "of alike ones the first by the lesser place, then the other one; none if by none it is less". */
     private static void exchange() {
-        String[] none = {"sock a 2;", "sock a 2;line a;", "sock a 2;line a a;", "sock a 1;sock b 1;line a b;", "sock a 2;sock b 1;line b a a;"};
-        int[] most = {0, 1, 1, 2, 1};
+        String[] none = {"sock a 2;", "sock a 2;line a;", "sock a 2;line a a;", "sock a 1;sock b 1;line a b;", "sock a 2;sock b 1;line b a a;",
+            "sock a 2;sock b 2;line b a;", "sock c 1;sock a 2;sock b 2;line b a;"};
+        int[] most = {0, 1, 1, 2, 1, 2, 2};
         for (int i = 0; i < none.length; i++) {
             SockTable x = told(none[i]);
             CHECK.due("exchange(0) of " + none[i], x.exchange(0), -2);
@@ -553,6 +572,12 @@ public final class TermBoundaryTest {
         CHECK.due("what is in the bag doesn't count", x.odd(0), 0);
         draws(x, 3, 0);
         CHECK.due("a left and a right one", x.odd(1), 7);
+        CHECK.due("one pair of them", x.odd(0), 1);
+        SockTable y = told("sock a 1;sock b 1;sock c 1;sock d 1;sock e 1;sock f 1;sock g 1;sock h 1;like g h 0;");
+        draws(y, 7, 0);
+        CHECK.due("the last kind alone", y.odd(0), 0);
+        draws(y, 6, 0);
+        CHECK.due("the last two", y.odd(0), 1);
         CHECK.due("they stay", x.count(4), 2);
     }
 
@@ -608,6 +633,9 @@ public final class TermBoundaryTest {
         CHECK.due("more on the other side", x.lost(8, 0, 1), 1);
         draws(x, 0, 0, 1, 1, 2, 0);
         CHECK.due("in bag and table, not what is rolled", x.lost(8, 0, 1), 1);
+        draws(x, 1, 0, 1, 0);
+        CHECK.due("right ones on the table", x.lost(8, 0, 1), 1);
+        CHECK.due("right ones on the table", x.lost(7, 0, 1), 0);
         CHECK.due("all the ways", x.lost(0, 0, 2) + x.lost(8, 0, 2), 65536);
     }
 
@@ -615,6 +643,8 @@ public final class TermBoundaryTest {
     private static void yearsBelowLose() {
         // LOT 1000 of 0 is 0 with seed 571, 999 with seed 1453.
         CHECK.due("0 is not below 0", told("sock a 1;seed 571;lose=0;").years(1, 0), 1);
+        CHECK.due("no law is 0", told("sock a 1;seed 571;").years(1, 0), 1);
+        CHECK.due("a law that divides by 0 is 0", told("sock a 1;seed 571;lose=9/week;").years(1, 0), 1);
         CHECK.due("0 is below 1", told("sock a 1;seed 571;lose=1;").years(1, 0), 0);
         CHECK.due("0 is not below less", told("sock a 1;seed 571;lose=0-1;").years(1, 0), 1);
         CHECK.due("999 is not below 999", told("sock a 1;seed 1453;lose=999;").years(1, 0), 1);
@@ -646,6 +676,15 @@ public final class TermBoundaryTest {
         CHECK.due("the last kind's two", told("glove g 3 4;sock a 5;lose=if all<6 then 0 else 1000;").years(1, 1), 2);
         CHECK.due("kind from 0 on", told("sock a 5;sock b 4;lose=if kind<1 then 1000 else 0;").years(1, 0), 4);
         CHECK.due("the eighth kind", told("glove a 1 1;glove b 1 1;glove c 1 1;glove d 1 1;lose=if kind<7 then 0 else 1000;").years(1, 0), 7);
+        CHECK.due("each is lost once", told("sock a 3;lose=1000;").years(200, 0), 0);
+        CHECK.due("each is lost once", told("sock a 3;sock b 2;lose=if there<2 then 0 else 1000;").years(200, 0), 2);
+        int[][] gloves = {{3, 4, 3}, {4, 3, 3}, {0, 9, 0}, {9, 0, 0}, {9, 9, 9}, {0, 0, 0}};
+        for (int[] one : gloves) {
+            CHECK.due("pairs of " + one[0] + " and " + one[1], told("glove g " + one[0] + " " + one[1] + ";").years(1, 1), one[2]);
+        }
+        for (int n = 0; n <= 9; n++) {
+            CHECK.due("pairs of " + n, told("sock a " + n + ";").years(1, 1), n / 2);
+        }
         SockTable x = told("sock a 3;lose=if week<199 then 0 else 1000;");
         CHECK.due("week from 0 on", x.years(199, 0), 3);
         CHECK.due("week from 0 on", x.years(200, 0), 0);

@@ -38,6 +38,7 @@ public final class TextBoundaryTest {
         twiceAndName();
         wrongPlaces();
         faultChangesNothing();
+        whatWentIsGone();
         goodTakesThePlace();
         CHECK.end();
     }
@@ -653,7 +654,9 @@ public final class TextBoundaryTest {
             CHECK.due("read() of " + text, Check.read(x, text), due);
             CHECK.same("a text with the fault " + due, TextBoundaryTest::midway, y -> {
                 midway(y);
+                y.years(3, 0);
                 Check.read(y, text);
+                y.years(12, 0);
                 Check.read(y, "!");
             }, "place -1", "place 0");
             CHECK.same("a text with the fault " + due + ", nothing told", y -> { }, y -> {
@@ -663,14 +666,36 @@ public final class TextBoundaryTest {
         }
     }
 
+    /** What went from the tape, or was read, is read no more, whatever the tape holds then. */
+    private static void whatWentIsGone() {
+        String[] whole = {"socks", "sock abcdefghi", "near 12345", "near 1;;", "sock a 1;x", "sock a 1; "};
+        int[] faults = {1, 1, 1, 0, 0, 0};
+        int[] places = {4, 13, 9, -1, -1, -1};
+        for (int i = 0; i < whole.length; i++) {
+            SockTable x = new SockTable();
+            Check.feed(x, whole[i]);
+            x.back(1);
+            CHECK.due("read() of " + whole[i] + " but for the last byte", x.read(), faults[i]);
+            CHECK.due("place() of " + whole[i] + " but for the last byte", x.place(), places[i]);
+            Check.read(x, "sock aaaaaaaaaaaaaaaaaaaaaaa 11111111111111111111;");
+            Check.feed(x, whole[i]);
+            x.back(1);
+            CHECK.due("read() of it behind a longer one", x.read(), faults[i]);
+            CHECK.due("place() of it behind a longer one", x.place(), places[i]);
+        }
+    }
+
     /** "else it is in place of the one ahead: all is in the BAG, nothing can be undone, nothing is SEEN, SLOTS hold nothing". */
     private static void goodTakesThePlace() {
-        String[] texts = {"", "sock a 3;sock b 2;glove c 1 1;sock d 2;", "sock a 1;glove b 3 2;like a b 3;near 4;table 1;full many;line a;seed 9;lose=9;"};
+        String[] texts = {"", "sock a 3;sock b 2;glove c 1 1;sock d 2;", "sock a 1;glove b 3 2;like a b 3;near 4;table 1;full many;line a;seed 9;lose=9;",
+            "sock a 9;sock b 9;lose=50;", "sock a 3;sock b 2;glove c 1 1;sock d 2;lose=900;", "sock a 3;sock b 2;glove d 1 1;sock c 2;like c d 7;lose=9;near 99;"};
         for (String text : texts) {
             CHECK.same("a text behind another: " + text, x -> Check.read(x, text), x -> {
                 midway(x);
                 x.hold(0);
                 x.hold(2);
+                x.mosts();
+                x.years(200, 0);
                 Check.read(x, text);
             }, "", "");
             CHECK.same("a text behind a stopped table: " + text, x -> Check.read(x, text), x -> {

@@ -3,6 +3,8 @@ import java.util.Random;
 /** Any arguments in any state: every call ends and answers, none throws, and the same calls answer the same again. */
 public final class WildTest {
     private static final Check CHECK = new Check("WildTest");
+    // With what brings the texts onto the tape they stay under the 512 calls that an object is used for.
+    private static final int CALLS = 400;
     private static final String[] TEXTS = {"", "sock a 9; sock b 9; table 1; full few; seed 9999; lose = 9999*9999*9999;",
         "glove a 9 9; table 18; full back; line a a a a a a a a a right a right a right a right a;",
         "sock a 2;sock b 2;sock c 2;sock d 2;sock e 2;sock f 2;sock g 3;sock h 3;table 4;full many;near 99;like a b 0;line a h b g c f;",
@@ -32,7 +34,7 @@ public final class WildTest {
         Random random = new Random(run);
         SockTable x = new SockTable();
         long answers = 0;
-        for (int i = 0; i < 512; i++) {
+        for (int i = 0; i < CALLS; i++) {
             if (i % 60 == run % 60) {
                 Check.feed(x, TEXTS[random.nextInt(TEXTS.length)]);
             }
