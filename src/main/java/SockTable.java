@@ -1363,9 +1363,12 @@ public final class SockTable {
     private static final class Odds {
         // A pair is worth more than all that the unlikeness of nine pairs can take.
         private static final int PAIR = 10000;
+        // On a table lies one of a sock's kind at most, and of a glove one side alone: there are no more rows of
+        // 18 such things in 8 kinds, those of four socks and two gloves with seven each.
+        private static final int MOST_ROWS = 1024;
 
         private final Grid grid = new Grid();
-        private final int[] worth = new int[Grid.MOST_CELLS];
+        private final int[] worth = new int[MOST_ROWS];
         int pairs;
         int sum;
 

@@ -593,6 +593,18 @@ public final class TermBoundaryTest {
         }
         CHECK.due("nine pairs", x.odd(0), 9);
         CHECK.due("nine pairs of 99", x.odd(1), 891);
+        String[] most = {"sock a 1;sock b 1;sock c 1;sock d 1;glove g 7 0;glove h 0 7;", "glove g 7 0;sock a 1;sock b 1;glove h 0 7;sock c 1;sock d 1;"};
+        for (String one : most) {
+            x = told(one + "like g h 9;like a b 1;like b c 0;like c d 2;like a d 3;near 9;");
+            for (int kind = 0; kind < 8; kind++) {
+                for (int i = x.kind(kind, 0); i > 0; i--) {
+                    CHECK.due("draw(" + kind + ")", x.draw(kind), 0);
+                }
+            }
+            CHECK.due("18 on the table", x.count(4), 18);
+            CHECK.due("all of 18", x.odd(0), 9);
+            CHECK.due("all of 18", x.odd(1), 66);
+        }
         x = told("sock a 1;sock b 1;sock c 1;like a b 3;like b c 3;like a c 2;near 3;");
         draws(x, 0, 0, 1, 0, 2, 0);
         CHECK.due("each in one", x.odd(0), 1);
