@@ -70,12 +70,11 @@ public final class SockTable {
     private static final int WAS_FULL = 2;
     private static final int STOPPED = 3;
 
-    private final Tape tape = new Tape();
+    // The teller makes the tape, the grammar and the draft itself: nothing of this object is handed out while it is made.
+    private final Teller teller = new Teller();
+    private final Grammar grammar = teller.grammar;
+    private final Tape tape = grammar.tape;
     private final Text told = new Text();
-    // A text is read into the draft first, for one with a fault changes nothing.
-    private final Text draft = new Text();
-    private final Grammar grammar = new Grammar(tape, draft.law);
-    private final Teller teller = new Teller(tape, draft);
     private int faultPlace = NONE;
 
     private final State now = new State();
@@ -98,7 +97,6 @@ public final class SockTable {
         for (int i = 0; i < slots.length; i++) {
             slots[i] = new State();
         }
-        beginAnew();
     }
 
     public int feed(int a, int b, int c, int d, int e) {
@@ -124,7 +122,6 @@ public final class SockTable {
     public int read() {
         tape.split();
         tape.length = 0;
-        draft.clear();
         int fault = grammar.check();
         int token = grammar.next;
         if (fault == 0) {
@@ -136,7 +133,7 @@ public final class SockTable {
             return fault;
         }
         faultPlace = NONE;
-        told.become(draft);
+        told.become(teller.draft);
         beginAnew();
         return 0;
     }
@@ -640,8 +637,8 @@ public final class SockTable {
 
     /** Looks for the faults SYNTAX and ROOM, and writes down the law on the way. */
     private static final class Grammar {
-        private final Tape tape;
-        private final Law law;
+        final Tape tape = new Tape();
+        final Law law = new Law();
         // The token that is looked at; of a text with a fault in the end that where it is.
         int next;
         private int type;
@@ -650,12 +647,8 @@ public final class SockTable {
         private int likes;
         private int ifs;
 
-        Grammar(Tape tape, Law law) {
-            this.tape = tape;
-            this.law = law;
-        }
-
         int check() {
+            law.clear();
             next = 0;
             type = tape.typeAt(0);
             fault = 0;
@@ -784,17 +777,16 @@ public final class SockTable {
 
     /** Tells a text, in which SYNTAX and ROOM are right, or finds its first other fault. */
     private static final class Teller {
-        private final Tape tape;
-        private final Text text;
+        final Grammar grammar = new Grammar();
+        private final Tape tape = grammar.tape;
+        // What was told ahead stays beside it, for a text with a fault changes nothing.
+        final Text draft = new Text();
         private int fault;
         int faultToken;
 
-        Teller(Tape tape, Text text) {
-            this.tape = tape;
-            this.text = text;
-        }
-
         int tellAll() {
+            draft.clear();
+            draft.law.become(grammar.law);
             fault = 0;
             faultToken = NONE;
             for (int i = 0; i < tape.tokens && fault == 0; i++) {
@@ -809,11 +801,11 @@ public final class SockTable {
                 case SOCK: tellSock(first); break;
                 case GLOVE: tellGlove(first); break;
                 case LIKE: tellLike(first); break;
-                case NEAR: text.near = number(first + 1, 0, MOST_UNLIKE); break;
-                case TABLE: text.room = number(first + 1, 1, MOST_THINGS); break;
-                case FULL: text.full = tape.typeAt(first + 1) - BACK_WORD; break;
+                case NEAR: draft.near = number(first + 1, 0, MOST_UNLIKE); break;
+                case TABLE: draft.room = number(first + 1, 1, MOST_THINGS); break;
+                case FULL: draft.full = tape.typeAt(first + 1) - BACK_WORD; break;
                 case LINE: tellLine(first + 1); break;
-                case SEED: text.seed = tape.intAt(first + 1); break;
+                case SEED: draft.seed = tape.intAt(first + 1); break;
                 default: break;
             }
         }
@@ -821,23 +813,23 @@ public final class SockTable {
         private void tellSock(int first) {
             newName(first + 1);
             int many = number(first + 2, 0, MOST_OF_KIND);
-            if (total(text.number) + many > MOST_THINGS) {
+            if (total(draft.number) + many > MOST_THINGS) {
                 fail(FAULT_WRONG, first + 2);
             }
-            text.addKind(many, text.kinds);
-            text.addName(tape.valueAt(first + 1), text.kinds - 1);
+            draft.addKind(many, draft.kinds);
+            draft.addName(tape.valueAt(first + 1), draft.kinds - 1);
         }
 
         private void tellGlove(int first) {
             newName(first + 1);
             int left = number(first + 2, 0, MOST_OF_KIND);
             int right = number(first + 3, 0, MOST_OF_KIND);
-            if (total(text.number) + left + right > MOST_THINGS) {
+            if (total(draft.number) + left + right > MOST_THINGS) {
                 fail(FAULT_WRONG, first + 3);
             }
-            text.addKind(left, text.kinds + 1);
-            text.addKind(right, text.kinds - 1);
-            text.addName(tape.valueAt(first + 1), text.kinds - 2);
+            draft.addKind(left, draft.kinds + 1);
+            draft.addKind(right, draft.kinds - 1);
+            draft.addName(tape.valueAt(first + 1), draft.kinds - 2);
         }
 
         private void tellLike(int first) {
@@ -845,12 +837,12 @@ public final class SockTable {
             int other = oldName(first + 2);
             int much = number(first + 3, 0, MOST_UNLIKE);
             if (fault == 0) {
-                text.tellUnlike(one, other, much);
+                draft.tellUnlike(one, other, much);
             }
         }
 
         private void tellLine(int first) {
-            text.takeLineAway();
+            draft.takeLineAway();
             for (int i = first; i < tape.tokens && fault == 0 && tape.typeAt(i) != ';'; i++) {
                 if (tape.typeAt(i) == NAME) {
                     hang(i, tape.typeAt(i - 1) == RIGHT);
@@ -863,21 +855,21 @@ public final class SockTable {
             if (name == NONE) {
                 return;
             }
-            int kind = at(text.firstKind, name);
-            int partner = at(text.partner, kind);
-            if (right && partner == kind || !text.hang(right ? partner : kind)) {
+            int kind = at(draft.firstKind, name);
+            int partner = at(draft.partner, kind);
+            if (right && partner == kind || !draft.hang(right ? partner : kind)) {
                 fail(FAULT_WRONG, token);
             }
         }
 
         private void newName(int token) {
-            if (text.find(tape.valueAt(token)) != NONE) {
+            if (draft.find(tape.valueAt(token)) != NONE) {
                 fail(FAULT_TWICE, token);
             }
         }
 
         private int oldName(int token) {
-            int name = text.find(tape.valueAt(token));
+            int name = draft.find(tape.valueAt(token));
             if (name == NONE) {
                 fail(FAULT_NAME, token);
             }
@@ -1425,7 +1417,7 @@ public final class SockTable {
         private final boolean[] gone = new boolean[MOST_THINGS];
         private final int[] given = new int[VARS];
         private int weeks;
-        int firstLost;
+        int firstLost = NONE;
         final int[] leftAfter = new int[MOST_WEEKS];
         final int[] pairsAfter = new int[MOST_WEEKS];
 

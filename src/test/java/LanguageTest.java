@@ -123,7 +123,10 @@ public final class LanguageTest {
                 boolean field = line.matches("\\s*(private |static |final )+.*= new .*;");
                 boolean row = line.matches("\\s*(past|slots)\\[i\\] = new State\\(\\);");
                 CHECK.due("made: " + line.trim(), field || row, true);
+                boolean alone = line.matches(".*new (\\w+\\(\\)|\\w+\\[.+\\]);");
+                CHECK.due("is handed nothing: " + line.trim(), alone, true);
             }
         }
+        CHECK.due("an object hands itself out", Pattern.compile("[(,] *this *[,)]|= this;|return this;").matcher(code).find(), false);
     }
 }
